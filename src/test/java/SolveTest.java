@@ -23,8 +23,10 @@ public final class SolveTest {
         cancelInAProduct();
         cancelInARecount();
         limitEnds();
+        longestSolve();
         brokenEnds();
         divergedEnds();
+        divergedByRecount();
         stalledEnds();
         dotIsHeld();
         Check.end();
@@ -164,20 +166,36 @@ public final class SolveTest {
         }
     }
 
-    /** Goes on from there: the recount gives r = (0, -2), p = r, q = (0, -6), N/D = 4/12. */
+    /**
+     * A = (5 -1; -1 8), b = (9, 8), tolerance 3: p = (9, 8), q = (37, 55), N/D = 145/773, x = (1, 1),
+     * r = (9 - 6, 8 - 10), within the tolerance; the recount finds r = (5, 1). A new direction is
+     * p = (5, 1), q = (24, 3), N/D = 26/123, x = (2, 1), r = (0, 1), by recount (0, 2). One that
+     * follows would be (6, 2), and x would stay.
+     */
     private static void directionIsNewAfterRecount() {
-        RowTurnSolver x = Check.solver(1, new int[][] {{1, 0}, {0, 3}});
-        Check.loadAll(x, 100, 100);
-        x.start(1, 0, 0, 9);
-        Check.due("run(6)", x.run(6), 6);
-        Check.due("recounts()", x.recounts(), 1);
-        Check.historyIs("recounted", x, 100, 50, 2);
-        Check.residualIs("recounted", x, 0, -2);
-        Check.due("state()", x.state(), 1);
+        RowTurnSolver x = Check.solver(1, new int[][] {{5, -1}, {-1, 8}});
+        Check.loadAll(x, 9, 8);
+        x.start(1, 0, 3, 9);
         Check.due("run(2)", x.run(2), 2);
-        Check.solutionIs("after the recount", x, 100, 34);
-        Check.residualIs("after the recount", x, 0, 0);
-        Check.historyIs("after the recount", x, 100, 50, 2, 0);
+        Check.residualIs("before the recount", x, 3, -2);
+        Check.historyIs("before the recount", x, 9, 3);
+        Check.due("run(1)", x.run(1), 1);
+        Check.residualIs("half of the recount", x, 3, -2);
+        Check.historyIs("half of the recount", x, 9, 3);
+        Check.due("half of the recount: recounts()", x.recounts(), 0);
+        Check.due("run(1)", x.run(1), 1);
+        Check.residualIs("recounted", x, 5, 1);
+        Check.historyIs("recounted", x, 9, 5);
+        Check.due("recounted: recounts()", x.recounts(), 1);
+        Check.due("recounted: state()", x.state(), 1);
+        Check.due("run(2)", x.run(2), 2);
+        Check.solutionIs("after the recount", x, 2, 1);
+        Check.residualIs("after the recount", x, 0, 1);
+        Check.due("run(9)", x.run(9), 2);
+        Check.due("state()", x.state(), 2);
+        Check.due("recounts()", x.recounts(), 2);
+        Check.residualIs("converged", x, 0, 2);
+        Check.historyIs("converged", x, 9, 5, 2);
     }
 
     /** r = p = (100, 100), q = (100, 300): N = 40000, D = 100000. */
@@ -395,6 +413,22 @@ public final class SolveTest {
         Check.due("state()", x.state(), 3);
     }
 
+    /** Steepest descent at its slowest: r goes down by about 19/21 an iteration, 40 times. */
+    private static void longestSolve() {
+        RowTurnSolver x = Check.solver(1, new int[][] {{1, 0}, {0, 20}});
+        Check.loadAll(x, 20000, 20000);
+        Check.due("start", x.start(0, 0, 0, 40), true);
+        Check.due("run(1000)", x.run(1000), 80);
+        Check.due("state()", x.state(), 3);
+        Check.due("count()", x.count(), 40);
+        for (int k = 1; k <= 40; k++) {
+            long former = x.history(k - 1);
+            boolean asDue = Math.abs(x.history(k) - former * 19 / 21) <= former / 100;
+            Check.due("history(" + k + ") is about 19/21 of the one before", asDue, true);
+        }
+        Check.due("history(41)", x.history(41), NONE);
+    }
+
     private static void brokenEnds() {
         RowTurnSolver x = Check.solver(1, new int[][] {{-3}});
         Check.loadAll(x, 5);
@@ -435,6 +469,21 @@ public final class SolveTest {
             Check.residualIs(v + " times history 0", x, 0, v);
             Check.solutionIs(v + " times history 0", x, 1, 0);
         }
+    }
+
+    /**
+     * A = (2 0; 37 -74), b = (2, 0), method 2, kind 3: z = p = (16, 8), q = (32, 0), N/D = 64/1024,
+     * x = (1, 0), r = (0, 0); the recount finds r = (0, -37), more than 16 times 2.
+     */
+    private static void divergedByRecount() {
+        RowTurnSolver x = Check.solver(1, new int[][] {{2, 0}, {37, -74}});
+        Check.loadAll(x, 2, 0);
+        x.start(2, 3, 1, 9);
+        Check.due("run(1000)", x.run(1000), 4);
+        Check.due("found by a recount: state()", x.state(), 5);
+        Check.due("recounts()", x.recounts(), 1);
+        Check.historyIs("found by a recount", x, 2, 37);
+        Check.residualIs("found by a recount", x, 0, -37);
     }
 
     /** a = 99, b = 1: the step of x is 1/99, dropped, so every recount finds r = 1 again. */
