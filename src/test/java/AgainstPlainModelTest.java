@@ -5,8 +5,9 @@ import java.util.TreeMap;
  * model's. The runs are drawn from a fixed seed, so they are the same each time.
  */
 public final class AgainstPlainModelTest {
-    private static final int RUNS = 1500;
-    private static final int MOST_CALLS = 512;
+    private static final int RUNS = 2500;
+    /** No step of a run makes more calls than this. */
+    private static final int MOST_OF_A_STEP = 40;
     private static final int LARGE = RowTurnSolver.LARGE;
     private static final String[] MUST_BE_MET = {"block held", "clip", "dot held", "N below 0",
         "cancelled in product", "cancelled in recount", "cycle over 1 levels", "cycle over 2 levels",
@@ -16,10 +17,9 @@ public final class AgainstPlainModelTest {
 
     private final TreeMap<String, Integer> met = new TreeMap<>();
     private long seed = 20261115;
-    private RowTurnSolver x;
+    private Watched x;
     private PlainModel m;
     private String run;
-    private int calls;
 
     public static void main(String[] args) {
         AgainstPlainModelTest test = new AgainstPlainModelTest();
@@ -49,13 +49,12 @@ public final class AgainstPlainModelTest {
     private void oneRun(int number) {
         int order = oneIn(10) ? draw(-2, 15) : draw(1, 12);
         int workers = oneIn(10) ? draw(-2, 7) : draw(1, 4);
-        x = new RowTurnSolver(order, workers);
+        x = new Watched(order, workers);
         m = new PlainModel(order, workers, met);
         run = "run " + number + " (" + order + ", " + workers + "), ";
-        calls = 0;
         fillMatrix(draw(0, 5));
         fillVectors(draw(0, 4));
-        while (calls < MOST_CALLS && Check.allRight()) {
+        while (x.calls() + MOST_OF_A_STEP <= Watched.MOST_CALLS && Check.allRight()) {
             if (m.state == 1) {
                 callUnderWay();
             } else {
@@ -236,9 +235,7 @@ public final class AgainstPlainModelTest {
         due("history(" + h + ")", x.history(h), m.history(h));
     }
 
-    /** Not counted against the limit of calls: these answers alone change nothing. */
     private void askAll() {
-        int before = calls;
         due("state()", x.state(), m.state);
         due("count()", x.count(), m.count());
         due("recounts()", x.recounts(), m.recounts);
@@ -247,7 +244,6 @@ public final class AgainstPlainModelTest {
             due("solution(" + i + ")", x.solution(i), m.solution(i));
             due("residual(" + i + ")", x.residual(i), m.residual(i));
         }
-        calls = before;
     }
 
     private void due(String call, boolean got, boolean want) {
@@ -255,7 +251,6 @@ public final class AgainstPlainModelTest {
     }
 
     private void due(String call, long got, long want) {
-        calls++;
-        Check.due(run + "call " + calls + ": " + call, got, want);
+        Check.due(run + "call " + x.calls() + ": " + call, got, want);
     }
 }

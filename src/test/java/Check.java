@@ -1,10 +1,48 @@
+import java.lang.reflect.InvocationTargetException;
+import java.lang.reflect.Method;
+import java.util.Arrays;
+import java.util.Comparator;
+
 /** Compares answers with what is due, and ends a test with exit code 1 if one was wrong. */
 final class Check {
+    static final int MIN = Integer.MIN_VALUE;
+    static final int MAX = Integer.MAX_VALUE;
+
     private static final int MOST_TOLD = 40;
+    private static String test = "";
     private static int wrong = 0;
     private static int asked = 0;
 
     private Check() {
+    }
+
+    /** Runs each method of a class whose name begins with the promise that it tests. */
+    static void runAll(Class<?> tests) {
+        Method[] methods = tests.getDeclaredMethods();
+        Arrays.sort(methods, Comparator.comparing(Method::getName));
+        int ran = 0;
+        for (Method method : methods) {
+            if (method.getName().startsWith("promise") && method.getParameterCount() == 0) {
+                test = method.getName() + ": ";
+                runOne(method);
+                ran++;
+            }
+        }
+        test = "";
+        due("some tests of " + tests.getName() + " ran", ran > 0, true);
+        System.out.println(ran + " tests ran");
+        end();
+    }
+
+    private static void runOne(Method method) {
+        try {
+            method.invoke(null);
+        } catch (InvocationTargetException thrown) {
+            thrown.getCause().printStackTrace(System.out);
+            due("ended by " + thrown.getCause(), false, true);
+        } catch (IllegalAccessException hidden) {
+            due("cannot be run: " + hidden, false, true);
+        }
     }
 
     static void due(String call, long got, long want) {
@@ -12,7 +50,7 @@ final class Check {
         if (got != want) {
             wrong++;
             if (wrong <= MOST_TOLD) {
-                System.out.println(call + " answered " + got + ", due is " + want);
+                System.out.println(test + call + " answered " + got + ", due is " + want);
             }
         }
     }
@@ -33,64 +71,92 @@ final class Check {
     }
 
     /** An object with the rows of A as given. */
-    static RowTurnSolver solver(int workers, int[][] rows) {
-        RowTurnSolver x = new RowTurnSolver(rows.length, workers);
-        for (int i = 0; i < rows.length; i++) {
-            for (int j = 0; j < rows.length; j++) {
-                due("set(" + i + ", " + j + ", " + rows[i][j] + ")", x.set(i, j, rows[i][j]), true);
-            }
-        }
+    static Watched solver(int workers, int[][] rows) {
+        Watched x = new Watched(rows.length, workers);
+        setAll(x, rows);
         return x;
     }
 
-    static void loadAll(RowTurnSolver x, int... b) {
+    /** Entries of 0 are what a new object has, and are not set. */
+    static void setAll(Watched x, int[][] rows) {
+        for (int i = 0; i < rows.length; i++) {
+            for (int j = 0; j < rows[i].length; j++) {
+                if (rows[i][j] != 0) {
+                    due("set(" + i + ", " + j + ", " + rows[i][j] + ")", x.set(i, j, rows[i][j]), true);
+                }
+            }
+        }
+    }
+
+    /** An object of order 1. */
+    static Watched oneRow(int a, int b) {
+        Watched x = solver(1, new int[][] {{a}});
+        loadAll(x, b);
+        return x;
+    }
+
+    static void loadAll(Watched x, int... b) {
         for (int i = 0; i < b.length; i++) {
             due("load(" + i + ", " + b[i] + ")", x.load(i, b[i]), true);
         }
     }
 
-    static void guessAll(RowTurnSolver x, int... values) {
+    static void guessAll(Watched x, int... values) {
         for (int i = 0; i < values.length; i++) {
             due("guess(" + i + ", " + values[i] + ")", x.guess(i, values[i]), true);
         }
     }
 
-    static void solutionIs(String when, RowTurnSolver x, int... values) {
+    static void start(Watched x, int method, int kind, int tolerance, int limit) {
+        String call = "start(" + method + ", " + kind + ", " + tolerance + ", " + limit + ")";
+        due(call, x.start(method, kind, tolerance, limit), true);
+    }
+
+    static void run(Watched x, int rows, int done) {
+        due("run(" + rows + ")", x.run(rows), done);
+    }
+
+    static void stateIs(String when, Watched x, int state) {
+        due(when + ": state()", x.state(), state);
+    }
+
+    static void solutionIs(String when, Watched x, int... values) {
         for (int i = 0; i < values.length; i++) {
             due(when + ": solution(" + i + ")", x.solution(i), values[i]);
         }
     }
 
-    static void residualIs(String when, RowTurnSolver x, int... values) {
+    static void residualIs(String when, Watched x, int... values) {
         for (int i = 0; i < values.length; i++) {
             due(when + ": residual(" + i + ")", x.residual(i), values[i]);
         }
     }
 
-    static void historyIs(String when, RowTurnSolver x, int... values) {
+    static void leftIs(String when, Watched x, int... left) {
+        for (int k = 0; k < left.length; k++) {
+            due(when + ": left(" + k + ")", x.left(k), left[k]);
+        }
+    }
+
+    static void historyIs(String when, Watched x, int... values) {
         due(when + ": count()", x.count(), values.length - 1);
         for (int k = 0; k < values.length; k++) {
             due(when + ": history(" + k + ")", x.history(k), values[k]);
         }
-        due(when + ": history(-1)", x.history(-1), RowTurnSolver.NONE);
         due(when + ": history(count + 1)", x.history(values.length), RowTurnSolver.NONE);
     }
 
-    static void groupsAre(RowTurnSolver x, int level, int... groups) {
+    static void groupsAre(Watched x, int level, int... groups) {
         for (int i = 0; i < groups.length; i++) {
             due("group(" + level + ", " + i + ")", x.group(level, i), groups[i]);
         }
-        due("group(" + level + ", -1)", x.group(level, -1), RowTurnSolver.NONE);
-        due("group(" + level + ", order)", x.group(level, groups.length), RowTurnSolver.NONE);
     }
 
-    static void levelIs(RowTurnSolver x, int level, int[][] rows) {
+    static void levelIs(Watched x, int level, int[][] rows) {
         int order = rows.length;
-        for (int i = -1; i <= order; i++) {
-            for (int j = -1; j <= order; j++) {
-                boolean inside = i >= 0 && i < order && j >= 0 && j < order;
-                String call = "entry(" + level + ", " + i + ", " + j + ")";
-                due(call, x.entry(level, i, j), inside ? rows[i][j] : 0);
+        for (int i = 0; i < order; i++) {
+            for (int j = 0; j < order; j++) {
+                due("entry(" + level + ", " + i + ", " + j + ")", x.entry(level, i, j), rows[i][j]);
             }
         }
     }

@@ -80,6 +80,6 @@ public final class FaceTest {
         }
         Method[] own = RowTurnSolver.class.getDeclaredMethods();
         long names = Arrays.stream(own).map(Method::getName).distinct().count();
-        Check.due("no two methods of one name", names, own.length);
+        Check.due("methods of one name", own.length - names, 0);
     }
 }
