@@ -126,6 +126,17 @@ public final class EndsTest {
         Check.historyIs("the recount finds the tolerance", x, 9, 5);
     }
 
+    /** r is (3, -2) and by recount (5, 1), both below 8. */
+    static void promise16ConvergesBelowTheTolerance() {
+        Watched x = started(new int[][] {{5, -1}, {-1, 8}}, new int[] {9, 8}, 8, 9);
+        Check.run(x, 1000, 4);
+        Check.stateIs("below the tolerance", x, 2);
+        Check.historyIs("below the tolerance", x, 9, 5);
+        Check.start(x, 0, 0, 8, 9);
+        Check.stateIs("at once", x, 2);
+        Check.historyIs("at once", x, 5);
+    }
+
     static void promise16GoesOnWhenTheRecountIsAboveTheTolerance() {
         Watched x = started(new int[][] {{5, -1}, {-1, 8}}, new int[] {9, 8}, 4, 9);
         Check.run(x, 4, 4);
@@ -298,16 +309,23 @@ public final class EndsTest {
      * A = (2 0; v -2v), b = (2, 0), method 2, kind 3: z = p = (16, 8), q = (32, 0), N/D = 64/1024,
      * x = (1, 0), r = (0, 0); the recount finds r = (0, -v).
      */
+    private static void recountFinds(int v, int limit, int state) {
+        Watched x = started(new int[][] {{2, 0}, {v, -2 * v}}, new int[] {2, 0}, 2, 3, 1, limit);
+        Check.run(x, 4, 4);
+        Check.stateIs("the recount finds " + v + " after 2", x, state);
+        Check.due("recounts()", x.recounts(), 1);
+        Check.historyIs("the recount finds " + v + " after 2", x, 2, v);
+        Check.residualIs("the recount finds " + v + " after 2", x, 0, -v);
+    }
+
     static void promise16DivergedByARecount() {
-        int[] found = {32, 33};
-        for (int v : found) {
-            Watched x = started(new int[][] {{2, 0}, {v, -2 * v}}, new int[] {2, 0}, 2, 3, 1, 9);
-            Check.run(x, 4, 4);
-            Check.stateIs("the recount finds " + v + " after 2", x, v > 32 ? 5 : 1);
-            Check.due("recounts()", x.recounts(), 1);
-            Check.historyIs("the recount finds " + v + " after 2", x, 2, v);
-            Check.residualIs("the recount finds " + v + " after 2", x, 0, -v);
-        }
+        recountFinds(33, 9, 5);
+        recountFinds(33, 1, 5);
+    }
+
+    static void promise16NotDivergedByARecountOf16Times() {
+        recountFinds(32, 9, 1);
+        recountFinds(32, 1, 3);
     }
 
     static void promise16DivergedComesBeforeTheLimit() {
@@ -374,6 +392,33 @@ public final class EndsTest {
         Check.run(x, 1000, 2);
         Check.stateIs("six iterations", x, 6);
         Check.historyIs("six iterations", x, 100, 1, 1, 1, 1, 1, 1);
+    }
+
+    private static void goesTo(int state, int[][] rows, int[] b, int... history) {
+        Watched x = started(rows, b, 0, 40);
+        x.run(1000);
+        Check.stateIs("history 0 is " + history[0], x, state);
+        Check.historyIs("history 0 is " + history[0], x, history);
+    }
+
+    static void promise16StalledWhenAllOfTheLatestFiveAreMore() {
+        goesTo(6, new int[][] {{1, 1}, {-2, 1}}, new int[] {1, 0}, 1, 2, 2, 4, 4, 8);
+    }
+
+    /** At the fifth, one of the latest five alone is less: the first, the second, and so on. */
+    static void promise16NotStalledWhenOneOfTheLatestFiveIsLess() {
+        goesTo(6, new int[][] {{1, 0}, {0, 3}}, new int[] {1, 2}, 2, 1, 2, 2, 2, 2, 2);
+        goesTo(6, new int[][] {{1, 0}, {-2, 3}}, new int[] {2, 1}, 2, 2, 1, 2, 2, 2, 2, 2);
+        goesTo(5, new int[][] {{1, 0}, {2, 1}}, new int[] {4, 1}, 4, 5, 4, 3, 24, 17, 195);
+        goesTo(2, new int[][] {{1, 0}, {-2, 1}}, new int[] {2, 1}, 2, 16, 4, 14, 1, 2, 0);
+        goesTo(6, new int[][] {{2, -1}, {3, 2}}, new int[] {5, 1}, 5, 6, 5, 5, 6, 4, 8, 6, 12, 8, 17);
+    }
+
+    /** When it stalls, the last of all before the latest five alone is as little as the least of these. */
+    static void promise16StalledLooksAtAllBeforeTheLatestFive() {
+        goesTo(6, new int[][] {{2, 0}, {0, 0}}, new int[] {3, 0}, 3, 1, 1, 1, 1, 1, 1);
+        goesTo(6, new int[][] {{2, 0}, {-1, 0}}, new int[] {2, 1}, 2, 2, 1, 3, 1, 3, 1, 3);
+        goesTo(6, new int[][] {{3, 0}, {-2, 0}}, new int[] {4, 1}, 4, 4, 3, 3, 2, 3, 2, 3, 2, 3);
     }
 
     /** a = 99, b = 1: the step of x is 1/99, dropped, so every recount finds r = 1 again. */

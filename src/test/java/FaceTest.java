@@ -2,7 +2,6 @@ import java.lang.reflect.Constructor;
 import java.lang.reflect.Field;
 import java.lang.reflect.Method;
 import java.lang.reflect.Modifier;
-import java.util.Arrays;
 import java.util.List;
 import java.util.TreeSet;
 
@@ -36,8 +35,8 @@ public final class FaceTest {
         TreeSet<String> publicNames = new TreeSet<>();
         for (Field f : RowTurnSolver.class.getDeclaredFields()) {
             take(face, f.getModifiers(), f.toString());
-            boolean constant = Modifier.isFinal(f.getModifiers());
-            Check.due(f + " is final", constant, true);
+            boolean loose = Modifier.isStatic(f.getModifiers()) && !Modifier.isFinal(f.getModifiers());
+            Check.due(f + " is static and not final", loose, false);
         }
         for (Constructor<?> c : RowTurnSolver.class.getDeclaredConstructors()) {
             take(face, c.getModifiers(), c.toString());
@@ -67,19 +66,23 @@ public final class FaceTest {
     }
 
     private static void innerClasses(TreeSet<String> publicNames) {
+        noPrivateOneNamedLike(publicNames, RowTurnSolver.class);
         for (Class<?> c : RowTurnSolver.class.getDeclaredClasses()) {
             Check.due(c + " is static", Modifier.isStatic(c.getModifiers()), true);
             Check.due(c + " is public", Modifier.isPublic(c.getModifiers()), false);
-            for (Method m : c.getDeclaredMethods()) {
-                Check.due(m + " has a public one's name", publicNames.contains(m.getName()), false);
-            }
+            Check.due(c + " is protected", Modifier.isProtected(c.getModifiers()), false);
+            noPrivateOneNamedLike(publicNames, c);
             for (Field f : c.getDeclaredFields()) {
                 boolean loose = Modifier.isStatic(f.getModifiers()) && !Modifier.isFinal(f.getModifiers());
                 Check.due(f + " is static and not final", loose, false);
             }
         }
-        Method[] own = RowTurnSolver.class.getDeclaredMethods();
-        long names = Arrays.stream(own).map(Method::getName).distinct().count();
-        Check.due("methods of one name", own.length - names, 0);
+    }
+
+    private static void noPrivateOneNamedLike(TreeSet<String> publicNames, Class<?> c) {
+        for (Method m : c.getDeclaredMethods()) {
+            boolean named = Modifier.isPrivate(m.getModifiers()) && publicNames.contains(m.getName());
+            Check.due(m + " is private and has a public one's name", named, false);
+        }
     }
 }

@@ -162,6 +162,22 @@ public final class LevelsTest {
         Check.due("no level: entry(2, 0, 0)", x.entry(2, 0, 0), 0);
     }
 
+    /** Three pairs are left of a chain of 12: the second level's order is 3 instead of 6. */
+    static void promise8DoesNotLeanWhereAFormerLevelWas() {
+        Watched x = Check.solver(1, Check.chain(12, 20, -10));
+        Check.due("levels()", x.levels(), 3);
+        for (int i = 1; i < 12; i++) {
+            if (i > 5 || i % 2 == 0) {
+                Check.due("set", x.set(i, i - 1, 0), true);
+                Check.due("set", x.set(i - 1, i, 0), true);
+            }
+        }
+        Check.due("levels() of three pairs", x.levels(), 2);
+        Check.levelIs(x, 1, new int[][] {{20, 0, 0}, {0, 20, 0}, {0, 0, 20}});
+        Check.groupsAre(x, 1, NONE, NONE, NONE, NONE, NONE, NONE);
+        Check.due("entry(1, 3, 3)", x.entry(1, 3, 3), 0);
+    }
+
     /** One group of all 12 points: its entry is the sum of all, and is not clipped to 99. */
     static void promise9SumsMayLeaveTheRangeOfA() {
         int[][] rows = new int[12][12];
@@ -257,6 +273,29 @@ public final class LevelsTest {
         leansOnTheSecond(-99, -24, false);
     }
 
+    /** Point i leans on strong alone, or on weak too: each of the three columns is each of these once. */
+    static void promise10GreatestMayStandInAnyColumn() {
+        int[][] orders = {{0, 1, 2}, {0, 2, 1}, {1, 0, 2}, {1, 2, 0}, {2, 0, 1}, {2, 1, 0}};
+        for (int[] o : orders) {
+            int i = o[0];
+            int strong = o[1];
+            int weak = o[2];
+            int[][] rows = new int[3][3];
+            rows[i][strong] = -9;
+            rows[i][weak] = -2;
+            Watched below = Check.solver(1, rows);
+            Check.due("below a quarter: group of weak", below.group(0, weak), NONE);
+            Check.due("below a quarter: group of i", below.group(0, i), 0);
+            Check.due("below a quarter: group of strong", below.group(0, strong), 0);
+            rows[i][weak] = -3;
+            Watched above = Check.solver(1, rows);
+            int low = Math.min(strong, weak);
+            Check.due("above a quarter: group of strong", above.group(0, strong), strong == low ? 0 : 1);
+            Check.due("above a quarter: group of weak", above.group(0, weak), weak == low ? 0 : 1);
+            Check.due("above a quarter: group of i", above.group(0, i), strong == low ? 0 : 1);
+        }
+    }
+
     /** -1 is the first below 0; a 0 does not lean, though 4 times 0 is the greatest there. */
     static void promise10LeansOnlyBelow0() {
         Check.groupsAre(Check.solver(1, new int[][] {{9, -1, 5}, {0, 9, 0}, {0, 0, 9}}), 0, 0, 0, NONE);
@@ -325,6 +364,44 @@ public final class LevelsTest {
         Check.groupsAre(x, 0, 0, 0, 1, 0, 1, NONE);
         Check.due("levels()", x.levels(), 2);
         Check.levelIs(x, 1, new int[][] {{-5, -1}, {0, 48}});
+    }
+
+    /**
+     * Point c has the weight 5 (of t, u and three more), y has 4 (of x and three more), x has 3 (of t,
+     * u and y). c is chosen, t and u are tied and give x one more each, so that x is chosen before y,
+     * and y is tied to x; y's three join none. Wherever the points stand: each turn of them is tried.
+     */
+    static void promise10EachTiedPointPassesWeightOnToEachPoint() {
+        for (int turn = 0; turn < 12; turn++) {
+            int[] at = new int[12];
+            for (int k = 0; k < 12; k++) {
+                at[k] = (k + turn) % 12;
+            }
+            int c = at[0];
+            int x = at[8];
+            int y = at[3];
+            int[] tied = {at[1], at[11], at[2], at[4], at[5]};
+            int[][] rows = new int[12][12];
+            for (int k = 0; k < tied.length; k++) {
+                rows[tied[k]][c] = -4;
+                rows[tied[k]][x] = k < 2 ? -1 : 0;
+            }
+            rows[y][x] = -1;
+            rows[x][y] = -1;
+            int[] alone = {at[6], at[7], at[9]};
+            for (int k : alone) {
+                rows[k][y] = -1;
+            }
+            Watched s = Check.solver(1, rows);
+            for (int k : tied) {
+                Check.due("turn " + turn + ": group of a tied point", s.group(0, k), c < x ? 0 : 1);
+            }
+            Check.due("turn " + turn + ": group of x", s.group(0, x), c < x ? 1 : 0);
+            Check.due("turn " + turn + ": group of y", s.group(0, y), c < x ? 1 : 0);
+            for (int k : alone) {
+                Check.due("turn " + turn + ": group of y's points", s.group(0, k), NONE);
+            }
+        }
     }
 
     /** 3 leans on 2, which is tied, not chosen: it joins none. */

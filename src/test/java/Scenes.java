@@ -32,30 +32,32 @@ final class Scenes {
     }
 
     static Watched filled() {
-        Watched x = with(Check.chain(ORDER, 20, -10), 1000, 2000, -500);
+        Watched x = chain();
         Check.guessAll(x, 1, 2, 3);
         return x;
     }
 
-    static Watched inTheFirstProduct() {
-        Watched x = with(Check.chain(ORDER, 20, -10), 1000, 2000, -500);
-        Check.start(x, 1, 3, 0, 9);
-        Check.run(x, 1, 1);
+    private static Watched chain() {
+        return with(Check.chain(ORDER, 20, -10), 1000, 2000, -500);
+    }
+
+    private static Watched chainAfterRows(int kind, int rows) {
+        Watched x = chain();
+        Check.start(x, 1, kind, 0, 9);
+        Check.run(x, rows, rows);
         return x;
+    }
+
+    static Watched inTheFirstProduct() {
+        return chainAfterRows(3, 1);
     }
 
     static Watched inALaterProduct() {
-        Watched x = with(Check.chain(ORDER, 20, -10), 1000, 2000, -500);
-        Check.start(x, 1, 0, 0, 9);
-        Check.run(x, 4, 4);
-        return x;
+        return chainAfterRows(0, 4);
     }
 
     static Watched workerWithoutARow() {
-        Watched x = with(Check.chain(ORDER, 20, -10), 1000, 2000, -500);
-        Check.start(x, 1, 2, 0, 9);
-        Check.run(x, 2, 2);
-        return x;
+        return chainAfterRows(2, 2);
     }
 
     /** After the first iteration r is (3, -2, 0), within the tolerance; the recount is to find 5. */
@@ -86,7 +88,7 @@ final class Scenes {
                 return x;
             }
             case 3: {
-                Watched x = with(Check.chain(ORDER, 20, -10), 1000, 2000, -500);
+                Watched x = chain();
                 Check.start(x, 0, 0, 0, 2);
                 Check.run(x, 1000, 6);
                 return x;

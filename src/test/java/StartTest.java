@@ -297,6 +297,36 @@ public final class StartTest {
     }
 
     /**
+     * A = (1 2; -2 1), b = (1, 0): R' = 1, r = (0, 2); R = 4, p = (0 + 4, 2 + 0), q = (8, -6), D = 20:
+     * x = (1 + 16/20, 8/20), r = (0 - 32/20, 2 + 24/20).
+     */
+    static void promise11Method1FollowsAnRBeforeOf1() {
+        Watched x = Check.solver(1, new int[][] {{1, 2}, {-2, 1}});
+        Check.loadAll(x, 1, 0);
+        Check.start(x, 1, 0, 0, 9);
+        Check.run(x, 4, 4);
+        Check.solutionIs("R' is 1", x, 1, 0);
+        Check.residualIs("R' is 1", x, -1, 3);
+        Check.historyIs("R' is 1", x, 1, 2, 3);
+    }
+
+    /**
+     * A = (-8 -9; 0 16), b = (1, 1), kind 1: z = (-2, 1), R' = -1, q = (7, 16), D = 2, x = (1, 0),
+     * r = (1 + 3, 1 + 8). z = (-8, 9), R = 49, p = (-8 + 98, 9 - 49), q = (-360, -640), and
+     * D = -32400 + 25600: BROKEN. With p = z it would be above 0.
+     */
+    static void promise11Method1FollowsAnRBeforeBelow0() {
+        Watched x = Check.solver(1, new int[][] {{-8, -9}, {0, 16}});
+        Check.loadAll(x, 1, 1);
+        Check.start(x, 1, 1, 0, 9);
+        Check.run(x, 2, 2);
+        Check.solutionIs("R' is -1", x, 1, 0);
+        Check.residualIs("R' is -1", x, 4, 9);
+        Check.run(x, 1000, 2);
+        Check.stateIs("R' is -1", x, 4);
+    }
+
+    /**
      * Points 4 and 8 have no entries, so their r stays LARGE and R is held at 2 to the 36th; points
      * 5 and 9 have 1 on the diagonal, so that their p stays LARGE and D is held likewise. So
      * N / D = R / R' = 1. The second p of points 0, 2 and 3 is 2 r - q with the first r and q, and x
@@ -430,6 +460,44 @@ public final class StartTest {
      */
     static void promise11Kind3WithoutAFurtherLevelSweepsFourTimes() {
         Glass.zIs(3, new int[][] {{2, 1}, {1, 4}}, new int[] {10, 20}, 46, 67);
+    }
+
+    /**
+     * f = (160, 320, 480). UP: 80, 60, 340/3 = 113; DOWN: 113, 127/4 = 31, 16/2 = 8; UP: 8,
+     * 199/4 = 49, 423/3 = 141; DOWN: 141, 171/4 = 42, -23/2 = -11.
+     */
+    static void promise11Kind3SweepsUpDownUpDown() {
+        int[][] rows = {{2, 1, 1}, {1, 4, 1}, {1, 1, 3}};
+        Glass.zIs(3, rows, new int[] {10, 20, 30}, -11, 42, 141);
+    }
+
+    /**
+     * What an iteration or a former solve left on any level is not there when a cycle begins: the
+     * same solve, made a second time, goes the same way.
+     */
+    static void promise11Kind3BeginsWithZ0() {
+        goesTheSameWayTwice(new int[][] {{2, 1, 1}, {1, 4, 1}, {1, 1, 3}}, 1);
+        goesTheSameWayTwice(Check.chain(4, 20, -9), 2);
+        goesTheSameWayTwice(Check.chain(5, 20, -7), 2);
+        goesTheSameWayTwice(Check.chain(12, 20, -9), 3);
+    }
+
+    private static void goesTheSameWayTwice(int[][] rows, int levels) {
+        Watched x = Check.solver(1, rows);
+        Check.due("levels()", x.levels(), levels);
+        for (int i = 0; i < rows.length; i++) {
+            Check.due("load", x.load(i, 3000 - 777 * i), true);
+        }
+        Check.start(x, 0, 3, 0, 1);
+        Check.run(x, 1000, rows.length);
+        int[] first = new int[rows.length];
+        for (int i = 0; i < rows.length; i++) {
+            first[i] = x.solution(i);
+            Check.due("guess", x.guess(i, 0), true);
+        }
+        Check.start(x, 0, 3, 0, 1);
+        Check.run(x, 1000, rows.length);
+        Check.solutionIs("a second time", x, first);
     }
 
     /**

@@ -219,16 +219,23 @@ public final class WorkTest {
 
     // Promise 12: DOT
 
-    /**
-     * With p = b and a diagonal A, D is the DOT of b and of b times the diagonal. It is above 0 if
-     * the solve ends by its limit of 1, and not above 0 if it ends BROKEN.
-     */
-    private static void dIsAbove0(boolean due, int[] b, int... diagonal) {
+    /** With a diagonal A and p = r = b, the limit of 1 ends the solve, if it is not BROKEN before. */
+    private static void isBroken(boolean due, int method, int[] b, int... diagonal) {
         Watched x = Check.solver(1, Glass.diagonal(diagonal));
         Check.loadAll(x, b);
-        Check.start(x, 0, 0, 0, 1);
+        Check.start(x, method, 0, 0, 1);
         Check.run(x, b.length, b.length);
-        Check.stateIs("D is above 0 or not", x, due ? 3 : 4);
+        Check.stateIs("method " + method, x, due ? 4 : 3);
+    }
+
+    /** D is the DOT of b and of b times the diagonal; N is above 0. */
+    private static void dIsAbove0(boolean due, int[] b, int... diagonal) {
+        isBroken(!due, 0, b, diagonal);
+    }
+
+    /** N is the DOT of b and of b times the diagonal; D is above 0. */
+    private static void nOfMethod2Is0(boolean due, int[] b, int... diagonal) {
+        isBroken(due, 2, b, diagonal);
     }
 
     /** 2 to the 36th is not lessened: 2^36 - 2^36 + 1. */
@@ -316,15 +323,6 @@ public final class WorkTest {
             Check.stateIs("order " + n, x, 2);
             Check.due("order " + n + ": solution(n - 1)", x.solution(n - 1), 5);
         }
-    }
-
-    /** With p = r = b and a diagonal A, N is the DOT of b and of b times the diagonal; D is above 0. */
-    private static void nOfMethod2Is0(boolean due, int[] b, int... diagonal) {
-        Watched x = Check.solver(1, Glass.diagonal(diagonal));
-        Check.loadAll(x, b);
-        Check.start(x, 2, 0, 0, 1);
-        Check.run(x, b.length, b.length);
-        Check.stateIs("N is 0 or not", x, due ? 4 : 3);
     }
 
     /** 2^36 + 1 - 2^36 is held to 0; with 1 more it is 1. */
